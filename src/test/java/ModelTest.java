@@ -1,11 +1,13 @@
 import java.math.BigInteger;
 import java.util.ArrayList;
+import java.util.Arrays;
 import java.util.List;
 import java.util.Random;
 
 /** Races by chance against a plain model that tries out every plan and every way to puncture. */
 public final class ModelTest {
     private static final int RACES = 400;
+    private static final int FULL_EACH = 40;
     private static final String KINDS = "sdrhwfc";
     private static final int[] TAKES = {1, 1, 2, 3, 2, 2, 0};
 
@@ -17,9 +19,14 @@ public final class ModelTest {
     private final List<int[]> athletes = new ArrayList<>();
     private final List<int[]> tries = new ArrayList<>();
     private final StringBuilder story = new StringBuilder();
+    private final boolean isFull;
+    private int least = Integer.MAX_VALUE;
+    private int[] best = null;
+    private int[] leastBySum = null;
 
     private ModelTest(int seed) {
         random = new Random(seed);
+        isFull = seed % FULL_EACH == 0;
     }
 
     private void due(String call, long got, long want) {
@@ -38,13 +45,13 @@ public final class ModelTest {
     }
 
     private void make() {
-        int many = random.nextInt(7);
+        int many = isFull ? 10 : random.nextInt(7);
         for (int section = 0; section < many; section++) {
             int[] made = {random.nextInt(7), random.nextInt(10), 1 + random.nextInt(9)};
             sections.add(made);
             tell("s" + KINDS.charAt(made[0]) + made[1] + made[2] + ";");
         }
-        int howMany = 1 + random.nextInt(4);
+        int howMany = isFull ? 5 : 1 + random.nextInt(4);
         for (int athlete = 0; athlete < howMany; athlete++) {
             int[] made = {random.nextInt(10), random.nextInt(10), random.nextInt(10), random.nextInt(100)};
             athletes.add(made);
@@ -61,30 +68,36 @@ public final class ModelTest {
         }
     }
 
+    /** SECONDS of a section and LEGS behind it. */
+    private static int[] step(List<int[]> course, int[] who, int at, int hard, int legs) {
+        int kind = course.get(at)[0];
+        int figure = course.get(at)[1];
+        int length = course.get(at)[2];
+        boolean stiff = at > 0 && "rhw".indexOf(KINDS.charAt(course.get(at - 1)[0])) >= 0;
+        int[] plain = {
+            length * (20 - who[0]), length * (20 - who[0]) - length * figure,
+            length * (20 - who[1]), length * (20 - who[1]) + length * figure,
+            length * (20 - who[1]) + length * (figure >> 1),
+            length * (22 - who[2]) + (stiff ? length + figure : 0), 10 + 5 * figure};
+        int seconds = plain[kind];
+        int left = legs;
+        if (legs > 0) {
+            seconds -= (int) Math.floor(seconds * hard / 10.0);
+            left = Math.max(0, legs - TAKES[kind] * length * hard);
+        } else {
+            seconds += (int) Math.floor(seconds * 0.25);
+        }
+        return new int[] {seconds, Math.min(99, left + (kind == 6 ? 5 : 0))};
+    }
+
     /** SECONDS and LEGS by section; drink is the section behind which there are 20 more. */
     private static int[][] walk(List<int[]> course, int[] who, int[] plan, int drink) {
         int[][] told = new int[course.size()][];
-        double legs = who[3];
+        int legs = who[3];
         for (int at = 0; at < course.size(); at++) {
-            int kind = course.get(at)[0];
-            int figure = course.get(at)[1];
-            int length = course.get(at)[2];
-            boolean stiff = at > 0 && "rhw".indexOf(KINDS.charAt(course.get(at - 1)[0])) >= 0;
-            int[] plain = {
-                length * (20 - who[0]), length * (20 - who[0]) - length * figure,
-                length * (20 - who[1]), length * (20 - who[1]) + length * figure,
-                length * (20 - who[1]) + length * (figure >> 1),
-                length * (22 - who[2]) + (stiff ? length + figure : 0), 10 + 5 * figure};
-            int seconds = plain[kind];
-            if (legs > 0) {
-                seconds -= (int) Math.floor(seconds * plan[at] / 10.0);
-                legs = Math.max(0, legs - TAKES[kind] * length * plan[at]);
-            } else {
-                seconds += (int) Math.floor(seconds * 0.25);
-            }
-            legs = Math.min(99, legs + (kind == 6 ? 5 : 0));
-            legs = Math.min(99, legs + (at == drink ? 20 : 0));
-            told[at] = new int[] {seconds, (int) legs};
+            told[at] = step(course, who, at, plan[at], legs);
+            told[at][1] = Math.min(99, told[at][1] + (at == drink ? 20 : 0));
+            legs = told[at][1];
         }
         return told;
     }
@@ -189,25 +202,29 @@ public final class ModelTest {
         }
     }
 
+    /** Every plan from a section on, those with fewer TRIES in the first sections ahead. */
+    private void tryAll(int[] who, int[] plan, int at, int legs, int sum, int seconds) {
+        if (at == sections.size()) {
+            leastBySum[sum] = Math.min(leastBySum[sum], seconds);
+            if (seconds < least) {
+                least = seconds;
+                best = plan.clone();
+            }
+            return;
+        }
+        for (int hard = 0; hard < 4; hard++) {
+            int[] told = step(sections, who, at, hard, legs);
+            plan[at] = hard;
+            tryAll(who, plan, at + 1, told[1], sum + hard, seconds + told[0]);
+        }
+    }
+
     private void checkPlans(int athlete) {
         int many = sections.size();
-        int[] best = null;
-        int least = 0;
-        int[] leastBySum = new int[3 * many + 1];
-        for (int number = 0; number < 1 << 2 * many; number++) {
-            int[] plan = new int[10];
-            int sum = 0;
-            for (int at = 0; at < many; at++) {
-                plan[at] = number >> 2 * (many - 1 - at) & 3;
-                sum += plan[at];
-            }
-            int then = finish(sections, athletes.get(athlete), plan, -1);
-            if (best == null || then < least) {
-                best = plan;
-                least = then;
-            }
-            leastBySum[sum] = leastBySum[sum] == 0 ? then : Math.min(leastBySum[sum], then);
-        }
+        least = Integer.MAX_VALUE;
+        leastBySum = new int[3 * many + 1];
+        Arrays.fill(leastBySum, Integer.MAX_VALUE);
+        tryAll(athletes.get(athlete), new int[10], 0, athletes.get(athlete)[3], 0, 0);
         due("best plan", x.bestPlan(athlete, -1), least);
         for (int at = 0; at < many; at++) {
             due("best plan in " + at, x.bestPlan(athlete, at), best[at]);

@@ -206,7 +206,9 @@ public final class PromisesTest {
         due("kind", x.section(2, 0), 3);
         due("figure", x.section(2, 1), 7);
         due("length", x.section(2, 2), 3);
-        due("turned back", x.turn(2, 4, 5), 37);
+        due("the greatest", x.turn(2, 6, 9), 37);
+        due("the least", x.turn(2, 0, 0), 69);
+        due("turned back", x.turn(2, 4, 5), 0);
         due("no section", x.turn(4, 7, -1), -1);
         due("kind 7", x.turn(0, 7, -1), -2);
         due("kind -1", x.turn(0, -1, 0), -2);
@@ -572,6 +574,9 @@ public final class PromisesTest {
         // Less with a tube: 60 and 30 by 2 below 3 u by 2, so 50 is alike and 51 is more.
         due("51", x.tube(0, 2, 51), 1);
         due("50", x.tube(0, 2, 50), 0);
+        WetSuitPedalsShoes twice = told("sr01;sw01;a00099;");
+        due("71 of two rides", twice.tube(0, 2, 71), 1);
+        due("70 of two rides", twice.tube(0, 2, 70), 0);
         due("no rides", told("ss01;a00099;").tube(0, 2, 99), 0);
         due("nobody", x.tube(1, 1, 0), -1);
         due("t 1", x.tube(0, 1, 100), -4);

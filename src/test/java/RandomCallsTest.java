@@ -19,11 +19,30 @@ public final class RandomCallsTest {
 
     private RandomCallsTest(int seed) {
         random = new Random(seed);
+        if (seed % 2 == 0) {
+            tellFullRace();
+        }
+    }
+
+    private void tellFullRace() {
+        for (int section = 0; section < 10; section++) {
+            tell(STATEMENTS[random.nextInt(8)]);
+        }
+        for (int athlete = 0; athlete < 5; athlete++) {
+            tell(STATEMENTS[8 + random.nextInt(3)]);
+        }
+    }
+
+    private void tell(String text) {
+        for (char c : text.toCharArray()) {
+            x.letter(c);
+        }
+        x.race();
     }
 
     private int any() {
         int dice = random.nextInt(10);
-        return dice < 8 ? random.nextInt(8) - 1 : EXTREMES[random.nextInt(EXTREMES.length)];
+        return dice < 8 ? random.nextInt(dice < 7 ? 8 : 11) - 1 : EXTREMES[random.nextInt(EXTREMES.length)];
     }
 
     private int anyNumber() {
