@@ -125,6 +125,7 @@ public final class PromisesTest {
         fault("a00000;p10;", -2007);
         fault("x01;", -2000);
         fault("ss11;x01;", -2005);
+        fault("ss11;x10;", -2005);
         fault("ss11;ss11;x00;", -2010);
         fault("ss11;x01;ss11;", -2005);
         fault("ss11;ss11;ss11;ss11;ss11;ss11;ss11;ss11;ss11;ss11;ss11;", -2050);
@@ -610,6 +611,8 @@ public final class PromisesTest {
         due("no need of more than alike", told("sd91;a90099;a90099;").two(0, 1, 0), 0);
         due("the first's is ten", told("ss01;sr09;a00003;a00099;").two(0, 1, 0), 23);
         due("the other's", told("ss01;sr09;a00099;a00003;").two(0, 1, 0), 32);
+        // 209, 218, 211, 242 by TRIES of the one, 237, 231, 238, 232 of the other: never both at rest.
+        due("no pair", told("sw73;sf96;sw52;a30613;a81021;").two(0, 1, 0), -9);
         WetSuitPedalsShoes x = told("ss01;sr01;a00099;a00099;");
         due("the plan stays", x.tries(0, 0), 1);
         due("one twice", x.two(0, 0, 0), -1);
@@ -745,6 +748,12 @@ public final class PromisesTest {
             due("tries, those not there then, too", x.tries(0, section), tries[section]);
             due("tries of a new one", x.tries(2, section), 1);
         }
+        WetSuitPedalsShoes fewer = told("sr01;a00000;");
+        fewer.image();
+        tell(fewer, "sr01;sr01;");
+        due("more sections", fewer.bestPlan(0, -1), 75);
+        fewer.on();
+        due("fewer sections", fewer.bestPlan(0, -1), 25);
         WetSuitPedalsShoes none = new WetSuitPedalsShoes();
         due("an image of none", none.image(), 0);
         due("race", tell(none, RACE), 6);
@@ -777,6 +786,11 @@ public final class PromisesTest {
         }
         due("-1", x.count(-1), -9);
         due("17", x.count(17), -9);
+        WetSuitPedalsShoes first = told("sc11;sc11;");
+        due("changes", first.count(3), 2);
+        first.turn(0, 2, 0);
+        due("rides", first.count(4), 1);
+        due("changes", first.count(3), 1);
     }
 
     public static void main(String[] args) {
