@@ -23,7 +23,7 @@ public final class TwinTest {
         "tryHard A S H", "by A S W2", "finish A W2", "at A T", "overtakes A A W1", "bestPlan A B", "hardest A",
         "leastTries A T", "drink A W1", "train A W1", "weakest A", "meadow A W1", "leave A W1", "order A",
         "puncture A O L T W1", "mean A O L W1", "tube A O L", "draw A W1", "two A A S", "whatWas S W1", "row L",
-        "judge A", "clear", "lots N Z W1", "image", "on", "count W17"};
+        "judge A", "clear", "lots N Z W1", "image", "on", "count W17", "letter C", "race"};
 
     private static int wrong = 0;
 
@@ -114,6 +114,7 @@ public final class TwinTest {
             case 'T': return new int[] {0, 999};
             case 'O': return new int[] {2, 20};
             case 'N': return new int[] {1, 20};
+            case 'C': return new int[] {0, 255};
             case 'Z': return new int[] {Integer.MIN_VALUE, Integer.MAX_VALUE};
             default: return new int[] {Integer.parseInt(what), Integer.parseInt(what)};
         }
@@ -157,8 +158,9 @@ public final class TwinTest {
         int lastSection = Math.max(0, twin.sections.size() - 1);
         switch (below(8)) {
             case 0: case 1: case 2: case 3:
-                return "s" + "sdrhwfc".charAt(below(7)) + digits(1, 9) + (1 + below(oneIn(30) ? 10 : 9)) % 10;
-            case 4: return "a" + digits(3, 9) + (oneIn(2) ? digits(1, 3) : digits(1, 9)) + digits(1, 9);
+                int longest = oneIn(2) ? 2 : oneIn(15) ? 10 : 9;
+                return "s" + "sdrhwfc".charAt(below(7)) + digits(1, 9) + (1 + below(longest)) % 10;
+            case 4: return "a" + (oneIn(3) ? "555" : digits(3, 9)) + digits(1, oneIn(2) ? 1 : 9) + digits(1, 9);
             case 5: return "t" + athlete + digits(1, lastSection) + digits(1, 3);
             case 6: return "p" + athlete + digits(1 + below(oneIn(20) ? 11 : 9), 3);
             default: return "x" + digits(1, lastSection) + digits(1, lastSection);
@@ -213,6 +215,21 @@ public final class TwinTest {
         }
     }
 
+    /** As many numbers as there is room for, and one more. */
+    private void fillRow() {
+        for (int many = twin.row.size(); many <= 12; many++) {
+            ask("row", below(100));
+        }
+        ask("judge", below(twin.athletes.size()));
+    }
+
+    /** Where a tube is worth just nothing, or a second more. */
+    private void askOfTube() {
+        int rides = Math.max(1, twin.count(4));
+        int t = 2 + below(Math.min(19, rides));
+        ask("tube", below(twin.athletes.size()), t, Math.min(99, 10 + 60 * t / rides + below(2)));
+    }
+
     private void run() {
         int most = below(3) == 0 ? 4 : 10;
         tell();
@@ -222,6 +239,10 @@ public final class TwinTest {
                 tell();
             } else if (dice == 1) {
                 askOfRow();
+            } else if (dice == 2) {
+                askOfTube();
+            } else if (dice == 3 && oneIn(12)) {
+                fillRow();
             } else {
                 askAny();
             }
